@@ -1254,7 +1254,7 @@ public final class NoFartherThanAThrow {
             int had = valley.things.cell(thing, LAST);
             for (int carries = 1; carries <= TOP; carries++) {
                 int man = farthestBut(had);
-                if (man < 0 || man >= MOST_PEOPLE || fars[man] == 0) {
+                if (man < 0 || man >= MOST_PEOPLE) {
                     return NONE;
                 }
                 p += fars[man];
@@ -1266,6 +1266,7 @@ public final class NoFartherThanAThrow {
             return NONE;
         }
 
+        /** NONE if nobody else can bring it a step on. */
         private int farthestBut(int had) {
             int best = NONE;
             int most = 0;

@@ -175,6 +175,11 @@ public final class DaysTest {
         x.thing(0, 8, 1, 0);
         Due.due("nothing still", x.holds(1), -1);
         Due.due("nothing to say", x.says(1, 0), -3);
+        x.show(0, 1);
+        x.show(2, 0);
+        Due.due("again", x.restore(), 1);
+        Due.due("nothing in 0", x.holds(0), -1);
+        Due.due("there in 2", x.holds(2), 0);
     }
 
     private static void status() {

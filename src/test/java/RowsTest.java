@@ -178,6 +178,16 @@ public final class RowsTest {
         Due.due("one can, one can't: 2", y.handovers(2, 4), 1);
         Due.due("then 1, then 2", y.handovers(2, 7), 3);
         Due.refusals(y, 0, 0, 0, 0, 0, 0, 0);
+        slowHands();
+    }
+
+    private static void slowHands() {
+        NoFartherThanAThrow x = new NoFartherThanAThrow();
+        x.ask(0, 99);
+        x.thing(0, 10, 1, 0);
+        x.man(1);
+        x.man(1);
+        Due.due("99 times", x.handovers(0, 99), 99);
         NoFartherThanAThrow z = new NoFartherThanAThrow();
         z.thing(0, 50, 1, 0);
         z.man(4);
@@ -238,7 +248,10 @@ public final class RowsTest {
         Due.due("40 at most", x.helps(0, 1, 43, 0), -1);
         Due.due("40", x.helps(0, 1, 42, 0), 35);
         Due.due("no thing", x.helps(1, 9, 0, 9), -11);
+        Due.due("no thing, all else there", x.helps(1, 7, 19, 0), -11);
         Due.due("bits beyond", x.helps(0, 8, 0, 3), -11);
+        Due.due("bits beyond, one of them there", x.helps(0, 15, 60, 0), -11);
+        Due.due("below", x.helps(0, -1, 60, 0), -11);
         Due.due("no man", x.helps(0, 7, 0, 3), -11);
         Due.due("man -1", x.helps(0, 7, 19, -1), -11);
         Due.due("man 32", x.helps(0, 7, 19, 32), -11);
@@ -246,7 +259,7 @@ public final class RowsTest {
         Due.due("not farther", x.helps(0, 7, 2, 0), -16);
         Due.due("beyond LONG", x.helps(0, 7, 61, 0), -16);
         Due.due("it does", x.helps(0, 7, 18, 0), -16);
-        Due.refusals(x, 6, 0, 0, 0, 0, 3, 0);
+        Due.refusals(x, 9, 0, 0, 0, 0, 3, 0);
         NoFartherThanAThrow y = new NoFartherThanAThrow();
         y.thing(0, 99, 1, 0);
         y.man(1);

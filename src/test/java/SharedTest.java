@@ -124,6 +124,9 @@ public final class SharedTest {
         Due.due("8", x.given(8), -11);
         Due.due("1", x.given(1), -11);
         Due.due("no want", x.given(0), -1);
+        x.thing(0, 10, 1, 0);
+        x.want(0, 3, 1);
+        Due.due("without shared() ahead", x.given(0), 0);
         Due.due("far", x.given(Integer.MAX_VALUE), -11);
         Due.refusals(x, 5, 0, 0, 0, 0, 0, 0);
     }
@@ -138,6 +141,16 @@ public final class SharedTest {
             x.want(0, 60, 99);
         }
         given(x, 396, 0, 0, 1, 1, 2, 2, 3, 3);
+        NoFartherThanAThrow z = new NoFartherThanAThrow();
+        z.thing(0, 10, 1, 0);
+        for (int i = 0; i < 8; i++) {
+            z.man(1);
+        }
+        z.want(0, 9, 99);
+        z.want(0, 10, 99);
+        z.want(0, 11, 99);
+        z.want(0, 8, 1);
+        given(z, 1, 3, 3, 3, 3, 3, 3, 3, 3);
         NoFartherThanAThrow y = new NoFartherThanAThrow();
         y.thing(0, 10, 1, 60);
         for (int i = 0; i < 4; i++) {

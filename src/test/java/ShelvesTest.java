@@ -40,6 +40,7 @@ public final class ShelvesTest {
         Due.due("refused: nothing there", x.holds(0), -1);
         Due.due("n 160", x.row(7, 3, 160), 1);
         Due.due("holds longs", x.holds(7), 103);
+        Due.due("its first", x.set(7, 0, 8), 1);
         Due.due("its last", x.set(7, 159, 7), 1);
         Due.due("behind it", x.set(7, 160, 7), -5);
         Due.due("n 0", x.row(6, 0, 0), 1);
@@ -47,6 +48,7 @@ public final class ShelvesTest {
         Due.due("no element", x.set(6, 0, 1), -5);
         Due.due("a new one for it", x.row(7, 2, 160), 1);
         Due.due("all 0 again", x.element(7, 159), 0);
+        Due.due("the first too", x.element(7, 0), 0);
         Due.due("holds ints", x.holds(7), 102);
         x.thing(0, 1, 1, 0);
         x.show(7, 0);

@@ -120,6 +120,13 @@ public final class TextTest {
         fault("", "man", 3);
         fault("", "man ", 4);
         fault("", "man  1", 4);
+        fault("", "wind ", 5);
+        fault("", "wind x", 5);
+        fault("", "river 0 ", 8);
+        fault("", "river  0", 6);
+        fault("", "thing 0 1 1 ", 12);
+        fault("", "thing  1 1 0", 6);
+        fault("thing 0 1 1 0", "want 0 1 ", 9);
         fault("", "man1", 3);
         fault("", "man;", 3);
         fault("", "man 1;", 6);

@@ -73,8 +73,10 @@ public final class ThingsTest {
         Due.due("one of several", x.men(0, 4, 2), 1);
         Due.due("6", x.manOf(3, 0), 6);
         Due.numbers(x, 3, 0, 1, 2, 3, 4, 5, 6);
-        Due.due("until the room ends", x.men(3, 1, 5), 4);
-        Due.due("the last", x.manOf(7, 0), 5);
+        Due.due("no more than n", x.men(3, 0, 2), 2);
+        Due.due("the last of them", x.manOf(5, 0), 2);
+        Due.due("until the room ends", x.men(3, 1, 5), 2);
+        Due.due("the last", x.manOf(7, 0), 3);
         Due.due("no room", x.men(3, 0, 1), 0);
         Due.refusals(x, 2, 1, 1, 1, 3, 0, 0);
         Due.due("eight", x.status(1), 8);
@@ -127,6 +129,13 @@ public final class ThingsTest {
         Due.due("less than TO", x.ask(0, 49), -6);
         Due.due("TO", x.ask(0, 50), 99);
         Due.refusals(x, 0, 0, 0, 0, 0, 9, 0);
+        NoFartherThanAThrow y = new NoFartherThanAThrow();
+        y.ask(0, 99);
+        y.thing(0, 1, 1, 98);
+        Due.due("less than 98", y.ask(0, 97), -6);
+        y.want(0, 99, 1);
+        Due.due("less than 99", y.ask(0, 98), -6);
+        Due.due("99", y.ask(0, 99), 99);
     }
 
     private static void river() {
