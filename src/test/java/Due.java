@@ -14,6 +14,10 @@ final class Due {
         }
     }
 
+    static int calls() {
+        return calls;
+    }
+
     static void text(NoFartherThanAThrow x, int s, int sort, String letters) {
         due("row for a text", x.row(s, sort, letters.length()), 1);
         for (int i = 0; i < letters.length(); i++) {
