@@ -145,6 +145,9 @@ public final class EdgesOfCarryingTest {
         Edges.is(far(3, 99, 9, 1, 1), 0);
         Edges.is(far(3, 99, 9, 2, 1), 1);
         Edges.is(far(3, 10, 9, 0, 1), 0);
+        // the half is of both together: of 1 and 1, of 5 and 3
+        Edges.is(far(3, 10, 9, 1, 1), 1);
+        Edges.is(far(3, 10, 9, 3, 5), 4);
     }
 
     /** Terms, FAR: "GLASS: as THING, 5 at most". */
@@ -565,6 +568,18 @@ public final class EdgesOfCarryingTest {
         judged(x, 1, 0, 1, MOST, 1);
         judged(x, 1, 0, 1, LEAST, 1);
         Edges.notRefused(x);
+    }
+
+    /** Terms, a told ROW of moves: nobody is no one either who could roll it by its EXTRA alone, or had it last. */
+    static void judgesMovesByNobodyOfWhatRolls() {
+        NoFartherThanAThrow x = new NoFartherThanAThrow();
+        Edges.is(x.thing(6, 10, 9, 30), 0);
+        Edges.people(x, 10);
+        judged(x, 0, 1, 1);
+        judged(x, 0, 7, 1);
+        judged(x, 0, -1, 1);
+        judged(x, 1, 0, 1, -1, 1);
+        judged(x, 1, 0, 1, 1, 1);
     }
 
     /** Terms, a told ROW of moves: where the move ahead left it, by who didn't have it then, as TIRED as then. */

@@ -392,6 +392,16 @@ public final class EdgesOfRowsTest {
         Edges.is(x.handovers(0, 19), 1);
     }
 
+    /** Terms, "(.. BROKEN don't matter in .. what follows of it.)", of HANDOVERS, for which LAST does matter. */
+    static void brokenDoesNotMatterToHandovers() {
+        NoFartherThanAThrow x = twins();
+        Edges.is(x.handovers(0, 15), 1);
+        Edges.is(x.handovers(1, 15), 1);
+        Edges.is(x.handovers(3, 18), 1);
+        Edges.is(x.handovers(2, 14), 1);
+        Edges.is(x.handovers(2, 15), 2);
+    }
+
     /** Terms, HANDOVERS "TIRED as now": nobody tires by it; who is TIRED already has less FAR. */
     static void handoversTiredAsNow() {
         NoFartherThanAThrow x = row(2, 2);
@@ -546,15 +556,14 @@ public final class EdgesOfRowsTest {
         Edges.is(y.weakest(0, 192), 6);
     }
 
-    /** Terms, WEAKEST: over THE RIVER it is who is not needed for it, though of more FAR. */
+    /** Terms, WEAKEST "of several the first": where THE RIVER makes the END the same without 6 and without 4. */
     static void weakestOverTheRiver() {
-        NoFartherThanAThrow x = row(4, 9, 6);
+        NoFartherThanAThrow x = row(9, 6, 4);
         Edges.is(x.river(14, 23), 1);
-        // 4, then 9 to 23, then 6; without 6 it is 23, without 4: 14 at most by 6, then 9
-        Edges.is(x.weakest(0, 7), 0);
-        Edges.is(x.end(0, 6), 23);
+        Edges.is(x.end(0, 5), 23);
         Edges.is(x.end(0, 3), 23);
-        Edges.is(x.end(0, 5), 14);
+        Edges.is(x.end(0, 6), 14);
+        Edges.is(x.weakest(0, 7), 1);
     }
 
     /** Promise 32, "-5 it is empty". */

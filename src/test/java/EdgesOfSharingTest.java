@@ -30,7 +30,10 @@ public final class EdgesOfSharingTest {
         shared(x, 0);
         Edges.is(x.want(0, 20, 9), 0);
         shared(x, 0);
-        shared(row(5, 5), 0, NONE, NONE);
+        NoFartherThanAThrow y = row(5, 5);
+        shared(y, 0, NONE, NONE);
+        Edges.notRefused(x);
+        Edges.notRefused(y);
     }
 
     /** Terms, SHARED "a WANT being met if its set DOES": just as far, one step too far. */
@@ -49,6 +52,16 @@ public final class EdgesOfSharingTest {
         shared(x, 99, 0, 0, 0, 0, 0, 0, 0, 0);
         Edges.is(x.want(0, 17, 99), 1);
         shared(x, 99, NONE, 1, 1, 1, 1, 1, 1, 1);
+    }
+
+    /** Terms, SHARED: all eight for the last WANT, of the least WORTH that there is above 0. */
+    static void allForTheLast() {
+        NoFartherThanAThrow x = row(1, 1, 1, 1, 1, 1, 1, 1);
+        for (int want = 0; want < 3; want++) {
+            Edges.is(x.want(0, 19, 99), want);
+        }
+        Edges.is(x.want(0, 18, 1), 3);
+        shared(x, 1, 3, 3, 3, 3, 3, 3, 3, 3);
     }
 
     /** Terms, SHARED: four WANTS of WORTH 99, two of eight for each: 396, the most there is. */

@@ -200,6 +200,9 @@ public final class EdgesOfTextsTest {
         Due.numbers(x, 0, 2, -1);
         Edges.refused(x, -6, () -> x.valley(0));
         Edges.is(x.fault(), 0);
+        Due.numbers(x, 0, 2, 'm', 'a', 'n', 0, '7');
+        Edges.refused(x, -6, () -> x.valley(0));
+        Edges.is(x.fault(), 3);
         Due.numbers(x, 0, 2, 'm', 'a', 'n', -1, '7');
         Edges.refused(x, -6, () -> x.valley(0));
         Edges.is(x.fault(), 3);
@@ -297,6 +300,7 @@ public final class EdgesOfTextsTest {
     static void longNoLessThanTo() {
         reads(new NoFartherThanAThrow(), "river 10 50;long 50", 2);
         fault(new NoFartherThanAThrow(), "river 10 50;long 49", 17);
+        fault(new NoFartherThanAThrow(), "river 50 50;long 49", 17);
         faults(5, "long 44");
         reads(some(), "long 45", 1);
     }
