@@ -953,7 +953,7 @@ public final class NoFartherThanAThrow {
 
         /** Whether n elements from i on are there; their end may be the ROW's. */
         boolean spans(int s, int i, int n) {
-            return i >= 0 && n >= 0 && (long) i + n <= sizeOf(s);
+            return has(s) && i >= 0 && n >= 0 && (long) i + n <= sizeOf(s);
         }
 
         void makeRow(int s, int sort, int n) {

@@ -44,7 +44,10 @@ final class Edges {
         Due.due(got == due ? "" : place(), got, due);
     }
 
-    /** Each of the calls is refused with this answer, is counted once, and changes nothing else. */
+    /**
+     * Each of the calls is refused with this answer, is counted once, and changes nothing else. What there is is asked
+     * for once ahead of all of them and once after, as an object is good for 512 calls.
+     */
     static void refused(NoFartherThanAThrow x, int answer, LongSupplier... calls) {
         int number = answer <= -10 ? answer + 10 : answer;
         int[] counts = counts(x);
@@ -95,9 +98,10 @@ final class Edges {
             }
         }
         for (int s = 0; s < 8; s++) {
-            told[n++] = x.holds(s);
-            for (int i = 0; i < 6 && x.holds(s) >= 100; i++) {
-                told[n++] = x.element(s, i < 5 ? i : 159);
+            int held = x.holds(s);
+            told[n++] = held;
+            for (int i = 0; i < 5 && held >= 100; i++) {
+                told[n++] = x.element(s, i < 4 ? i : 159);
             }
         }
         for (int i = 0; i < 3; i++) {

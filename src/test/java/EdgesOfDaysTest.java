@@ -139,10 +139,8 @@ public final class EdgesOfDaysTest {
         for (int thing = 0; thing < 8; thing++) {
             Edges.is(x.thing(kinds[thing], 30, 9, 0), thing);
         }
-        for (int i = 0; i < 8; i++) {
-            int thing = i;
-            Edges.refused(x, -2, () -> x.part(thing));
-        }
+        Edges.refused(x, -2, () -> x.part(0), () -> x.part(1), () -> x.part(2), () -> x.part(3), () -> x.part(4),
+            () -> x.part(5), () -> x.part(6), () -> x.part(7));
         Edges.refused(x, -1, () -> x.part(8));
     }
 
@@ -489,16 +487,17 @@ public final class EdgesOfDaysTest {
     static void statusOfEachRefusal() {
         NoFartherThanAThrow x = parted(30, 9);
         Edges.is(x.show(7, 0), 1);
-        Edges.refused(x, -1, () -> x.row(8, 0, 1));
-        Edges.refused(x, -2, () -> x.set(7, 0, 1), () -> x.set(7, 0, 1));
-        Edges.refused(x, -3, () -> x.set(6, 0, 1), () -> x.set(6, 0, 1), () -> x.set(6, 0, 1));
-        Edges.refused(x, -4, () -> x.row(0, 0, -1));
-        Edges.refused(x, -5, () -> x.manOf(0, 0), () -> x.manOf(0, 0));
-        Edges.refused(x, -6, () -> x.man(0), () -> x.man(0), () -> x.man(0));
-        Edges.refused(x, -7, () -> x.part(0), () -> x.row(0, 0, 161), () -> x.part(0), () -> x.part(0));
-        int[] counts = {1, 2, 3, 1, 2, 3, 4};
-        for (int i = 0; i < 7; i++) {
-            Edges.is(x.status(11 + i), counts[i]);
+        for (int n = 1; n <= 7; n++) {
+            Edges.is(n > 1 ? -1 : x.row(8, 0, 1), -1);
+            Edges.is(n > 2 ? -2 : x.set(7, 0, 1), -2);
+            Edges.is(n > 3 ? -3 : x.set(6, 0, 1), -3);
+            Edges.is(n > 4 ? -4 : x.row(0, 0, -1), -4);
+            Edges.is(n > 5 ? -5 : x.manOf(0, 0), -5);
+            Edges.is(n > 6 ? -6 : x.man(0), -6);
+            Edges.is(n % 2 == 0 ? x.part(0) : x.row(0, 0, 161), -7);
+        }
+        for (int number = 1; number <= 7; number++) {
+            Edges.is(x.status(10 + number), number);
         }
     }
 

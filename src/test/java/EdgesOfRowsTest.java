@@ -1,4 +1,5 @@
 import java.util.function.IntUnaryOperator;
+import java.util.function.LongSupplier;
 
 /** Promises 24 to 28 and 31 to 33, and the Terms of standing rows, handovers and mills: the boundary cases. */
 public final class EdgesOfRowsTest {
@@ -22,9 +23,12 @@ public final class EdgesOfRowsTest {
     private static void takesSteps(NoFartherThanAThrow x, int refusal, IntUnaryOperator call) {
         int[] not = {10, 9, 0, -1, 21, 24, 61, LEAST, MOST};
         Edges.is(x.river(20, 25), 1);
-        for (int step : not) {
-            Edges.refused(x, refusal, () -> call.applyAsInt(step));
+        LongSupplier[] calls = new LongSupplier[not.length];
+        for (int i = 0; i < not.length; i++) {
+            int step = not[i];
+            calls[i] = () -> call.applyAsInt(step);
         }
+        Edges.refused(x, refusal, calls);
         int[] may = {11, 20, 25, 60};
         int before = x.status(16);
         for (int step : may) {

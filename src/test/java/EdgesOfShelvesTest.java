@@ -288,8 +288,8 @@ public final class EdgesOfShelvesTest {
 
     /** Promise 4, "-1": of either SHELF. */
     static void copyRefusesNoShelf() {
-        NoFartherThanAThrow x = twoRows();
         for (int s : NO_SHELVES) {
+            NoFartherThanAThrow x = twoRows();
             Edges.refused(x, -1, () -> x.copy(s, 0, 0, 0, 1), () -> x.copy(0, s, 0, 0, 1));
         }
     }
@@ -500,8 +500,8 @@ public final class EdgesOfShelvesTest {
 
     /** Promise 8, "-1 SHELF". */
     static void saysRefusesNoShelf() {
-        NoFartherThanAThrow x = allKinds();
         for (int s : NO_SHELVES) {
+            NoFartherThanAThrow x = allKinds();
             Edges.refused(x, -1, () -> x.says(s, 0));
         }
     }

@@ -548,14 +548,14 @@ public final class EdgesOfTextsTest {
         Edges.refused(x, -3, () -> x.valley(2));
         Edges.is(x.fault(), NONE);
         fault(x, "man?", 3);
-        Edges.refused(x, -1, () -> x.valley(8));
+        Edges.is(x.valley(8), -1);
         Edges.is(x.fault(), 3);
-        Edges.refused(x, -2, () -> x.valley(1));
+        Edges.is(x.valley(1), -2);
         Edges.is(x.fault(), 3);
-        Edges.refused(x, -3, () -> x.valley(2));
+        Edges.is(x.valley(2), -3);
         Edges.is(x.fault(), 3);
         reads(x, "man 1", 1);
-        Edges.refused(x, -3, () -> x.valley(2));
+        Edges.is(x.valley(2), -3);
         Edges.is(x.fault(), NONE);
     }
 

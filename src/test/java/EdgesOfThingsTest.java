@@ -66,7 +66,7 @@ public final class EdgesOfThingsTest {
         Edges.is(x.manOf(0, 1), 0);
     }
 
-    /** THINGS that come where a THING and a tired one were put away are new: nothing of the old ones is left. */
+    /** Terms, "at first": also of those that come where others were put away by restore(), of which nothing is left. */
     static void newOnesAreNewAfterARestore() {
         NoFartherThanAThrow x = new NoFartherThanAThrow();
         Edges.is(x.image(), 0);

@@ -100,7 +100,7 @@ public final class ThrowTest {
         x.man(60);
         int seed = 1;
         int both = 0;
-        for (int i = 0; i < 60; i++) {
+        for (int i = 0; i < 36; i++) {
             x.image();
             x.carry(1, 0, 1);
             int d = 1 + i % 40;
